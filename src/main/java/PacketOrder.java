@@ -239,22 +239,18 @@ public final class PacketOrder {
     }
 
     private int takePackets(int n) {
-        int left = n - takeOfRow(n);
+        int left = n - row.take(n);
         int changeCount = Math.max(changes.size(), 1);
         while (left > 0 && changeNow + 1 < changeCount) {
             changeNow++;
             fillRow(changes.isEmpty() ? own : changes.get(changeNow));
-            left -= takeOfRow(left);
+            // A change that has nothing left must not count as the last packet's one.
+            if (row.size > 0) {
+                changeOfLast = changeNow;
+            }
+            left -= row.take(left);
         }
         return n - left;
-    }
-
-    private int takeOfRow(int n) {
-        int taken = row.take(n);
-        if (taken > 0) {
-            changeOfLast = changeNow;
-        }
-        return taken;
     }
 
     private void fillRow(Change change) {
@@ -441,6 +437,7 @@ public final class PacketOrder {
 
         int take(int n) {
             int left = n;
+            // It ends, because no group is empty: each turn goes on to a later group, or is the last one.
             while (left > 0 && groupStart < size) {
                 left -= takeOfGroup(left);
                 if (left > 0) {
@@ -473,10 +470,15 @@ public final class PacketOrder {
                     left -= takeWholeLayers(left);
                 }
                 left -= takeOfLayer(left);
+                if (at >= groupEnd) {
+                    at = groupStart;
+                    layer++;
+                }
             }
             return n - left;
         }
 
+        /** Fewer than n only if it went to the group's end. */
         private int takeOfLayer(int n) {
             int taken = 0;
             while (taken < n && at < groupEnd) {
@@ -487,10 +489,6 @@ public final class PacketOrder {
                     taken++;
                 }
                 at++;
-            }
-            if (at >= groupEnd) {
-                at = groupStart;
-                layer++;
             }
             return taken;
         }

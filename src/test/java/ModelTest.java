@@ -1,4 +1,5 @@
 import java.util.ArrayList;
+import java.util.Arrays;
 import java.util.Comparator;
 import java.util.List;
 import java.util.NoSuchElementException;
@@ -9,11 +10,18 @@ import java.util.NoSuchElementException;
  */
 public final class ModelTest {
     private static final int RUNS = 3000;
-    private static final int CALLS = 160;
+    private static final int CALLS = 200;
+    private static final int TELLING = 16;
+    private static final int BEGIN = 6;
     private static final int[] ODD = {-1, 0, 1, 15, 16, 17, 32, 33, 34, 255, 256, 32767, 32768,
         Integer.MIN_VALUE, Integer.MAX_VALUE};
 
+    private static final int[] SKIPS = {3, 10, 10, 40, 100, 2000};
+
     private static long seed = 1;
+    // Of which kind the run is: large tiles and steps, or many components.
+    private static boolean wide = false;
+    private static boolean many = false;
 
     /** A fixed row of numbers, so that a failure comes again. */
     private static int below(int bound) {
@@ -28,8 +36,10 @@ public final class ModelTest {
 
     public static void main(String[] args) {
         int wrong = 0;
-        long came = 0;
+        long packets = 0;
         for (int run = 1; run <= RUNS && wrong == 0; run++) {
+            wide = run % 3 == 0;
+            many = run % 5 == 0;
             PacketOrder real = new PacketOrder();
             Model model = new Model();
             StringBuilder told = new StringBuilder();
@@ -37,15 +47,15 @@ public final class ModelTest {
                 int[] a = chooseCall(call);
                 String want = model.answer(a);
                 String got = answer(real, a);
-                told.append(NAMES[a[0]]).append(java.util.Arrays.toString(a)).append(" -> ").append(got).append('\n');
+                packets += a[0] == 9 && !want.equals("NoSuchElementException") ? 1 : 0;
+                told.append(NAMES[a[0]]).append(Arrays.toString(a)).append(" -> ").append(got).append('\n');
                 if (!want.equals(got)) {
                     wrong++;
                     System.out.println("run " + run + ", due is " + want + " behind\n" + told);
                 }
             }
-            came += model.at;
         }
-        System.out.println(wrong == 0 ? "all answers are as due, " + came + " packets came" : "an answer is not as due");
+        System.out.println(wrong == 0 ? "all answers are as due, " + packets + " of them of packets" : "an answer is not as due");
         if (wrong != 0) {
             System.exit(1);
         }
@@ -54,37 +64,45 @@ public final class ModelTest {
     private static final String[] NAMES = {"tile", "component", "precincts", "layers", "change", "clear", "begin", "next",
         "skip", "packet", "came"};
 
+    /** First what there is told, then a sequence goes on, with a new one or something new now and then. */
+    private static int chooseKind(int call) {
+        if (call < TELLING) {
+            return many && call > 4 ? 1 : below(5);
+        }
+        int chance = below(100);
+        if (call == TELLING || chance < 3) {
+            return BEGIN;
+        }
+        return chance < 6 ? below(BEGIN) : BEGIN + 1 + below(4);
+    }
+
     private static int[] chooseCall(int call) {
-        int kind = call < 12 ? below(5) : below(100);
-        if (call >= 12) {
-            kind = kind < 8 ? kind : kind == 8 ? 6 : 9;
-            kind = kind == 9 ? 6 + below(5) : kind;
-        }
-        if (call == 12) {
-            kind = 6;
-        }
+        int kind = chooseKind(call);
         switch (kind) {
             case 0:
-                int x = below(40);
-                int y = below(40);
-                return new int[] {0, from(x, x), from(y, y), from(x + 1, x + 20), from(y + 1, y + 20)};
+                int x = below(wide ? 20000 : 40);
+                int y = below(wide ? 20000 : 40);
+                int size = wide ? 12000 : 20;
+                return new int[] {0, from(x, x), from(y, y), from(x + 1, x + size), from(y + 1, y + size)};
             case 1:
-                return new int[] {1, from(1, 4), from(1, 4), from(0, below(10) == 0 ? 32 : 4)};
+                int step = wide ? 255 : 4;
+                return new int[] {1, from(1, step), from(1, step), from(0, below(10) == 0 ? 32 : 4)};
             case 2:
-                return new int[] {2, from(0, 2), from(0, 4), from(1, 4), from(1, 4)};
+                int exponent = wide ? 11 : 4;
+                return new int[] {2, from(0, 2), from(0, 4), from(1, exponent), from(1, exponent)};
             case 3:
-                return new int[] {3, from(1, 5), from(0, 4)};
+                return new int[] {3, from(1, below(10) == 0 ? 255 : 5), from(0, 4)};
             case 4:
                 int level = below(4);
-                int component = below(3);
+                int component = below(many ? 12 : 3);
                 return new int[] {4, from(level, level), from(level + 1, level + 4), from(component, component),
                     from(component + 1, component + 4), from(1, 6), from(0, 4)};
             case 8:
-                return new int[] {8, below(3) == 0 ? from(0, 2000) : from(0, 40)};
+                return new int[] {8, from(0, SKIPS[below(SKIPS.length)])};
             case 9:
                 return new int[] {9, from(0, 4)};
             case 10:
-                return new int[] {10, from(0, 3), from(0, 4), from(0, 8)};
+                return new int[] {10, from(0, many ? 12 : 3), from(0, 4), from(0, 8)};
             default:
                 return new int[] {kind};
         }
@@ -201,7 +219,7 @@ public final class ModelTest {
             must(components.size() < 16, new IllegalStateException());
             components.add(a);
             int[][] levels = new int[a[3] + 1][];
-            java.util.Arrays.fill(levels, new int[] {15, 15});
+            Arrays.fill(levels, new int[] {15, 15});
             exponents.add(levels);
             sequence = null;
             return "" + (components.size() - 1);
@@ -219,12 +237,9 @@ public final class ModelTest {
                     return "" + all.size();
                 case 7:
                     must(sequence != null, new IllegalStateException());
-                    at++;
-                    if (at > sequence.size()) {
-                        at--;
-                        return "false";
-                    }
-                    return "true";
+                    boolean comes = at < sequence.size();
+                    at += comes ? 1 : 0;
+                    return "" + comes;
                 case 8:
                     must(a[1] >= 0, new IllegalArgumentException());
                     must(sequence != null, new IllegalStateException());

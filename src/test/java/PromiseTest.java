@@ -68,6 +68,7 @@ public final class PromiseTest {
         places();
         emptyLevels();
         orders();
+        ordersOfAllComponents();
         changesInTurn();
         whatEndsASequence();
         whatLeavesASequence();
@@ -473,6 +474,27 @@ public final class PromiseTest {
             x.begin();
             due("order " + order + " of a change", want[number], () -> packets(x, 99));
             x.clear();
+        }
+    }
+
+    /** Sixteen components with all their levels at one place: only the order tells them apart. */
+    private static void ordersOfAllComponents() {
+        PacketOrder x = new PacketOrder();
+        x.tile(0, 0, 1, 1);
+        for (int c = 0; c < 16; c++) {
+            x.component(1, 1, 32);
+        }
+        for (int order = 0; order < 5; order++) {
+            boolean levelsFirst = order < 3;
+            x.layers(1, order);
+            due("a packet each", 16 * 33, x::begin);
+            for (int i = 0; i < 16 * 33; i += 5) {
+                int number = i;
+                x.begin();
+                x.skip(i + 1);
+                due("level " + i + " in order " + order, levelsFirst ? number / 16 : number % 33, () -> x.packet(1));
+                due("component " + i + " in order " + order, levelsFirst ? number % 16 : number / 33, () -> x.packet(2));
+            }
         }
     }
 
