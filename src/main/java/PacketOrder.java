@@ -259,7 +259,8 @@ public final class PacketOrder {
         for (int r = change.firstLevel; r < change.levelEnd; r++) {
             for (int c = change.firstComponent; c < componentEnd; c++) {
                 Level level = levelOf(c, r);
-                if (level != null) {
+                // A level that is empty in one direction may have many rows to go through for nothing.
+                if (level != null && level.precinctCount() > 0) {
                     enlist(level, change.order);
                 }
             }

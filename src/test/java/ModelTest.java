@@ -55,14 +55,15 @@ public final class ModelTest {
                 }
             }
         }
-        System.out.println(wrong == 0 ? "all answers are as due, " + packets + " of them of packets" : "an answer is not as due");
+        System.out.println(wrong == 0 ? "all answers are as due, " + packets + " of them of packets"
+                : "an answer is not as due");
         if (wrong != 0) {
             System.exit(1);
         }
     }
 
-    private static final String[] NAMES = {"tile", "component", "precincts", "layers", "change", "clear", "begin", "next",
-        "skip", "packet", "came"};
+    private static final String[] NAMES = {"tile", "component", "precincts", "layers", "change", "clear", "begin",
+        "next", "skip", "packet", "came"};
 
     /** First what there is told, then a sequence goes on, with a new one or something new now and then. */
     private static int chooseKind(int call) {
@@ -320,7 +321,8 @@ public final class ModelTest {
         private void come(int number, int[] a) {
             List<Packet> coming = new ArrayList<>();
             for (Packet p : all) {
-                if (p.change[0] < 0 && in(p.level, a[1], a[2] - 1) && in(p.component, a[3], a[4] - 1) && p.layer < a[5]) {
+                boolean isOfChange = in(p.level, a[1], a[2] - 1) && in(p.component, a[3], a[4] - 1) && p.layer < a[5];
+                if (isOfChange && p.change[0] < 0) {
                     p.change[0] = number;
                     coming.add(p);
                 }
