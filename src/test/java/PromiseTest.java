@@ -5,51 +5,7 @@ import java.util.Set;
 import java.util.TreeSet;
 
 /** Each promise by itself: ordinary inputs, the edges that the document names, and wrong inputs. */
-public final class PromiseTest {
-    private static final String ARGUMENT = "IllegalArgumentException";
-    private static final String STATE = "IllegalStateException";
-    private static final String ELEMENT = "NoSuchElementException";
-    private static final String UNSUPPORTED = "UnsupportedOperationException";
-    private static final int LEAST = Integer.MIN_VALUE;
-    private static final int MOST = Integer.MAX_VALUE;
-
-    private static int wrong = 0;
-
-    private interface Call {
-        Object run();
-    }
-
-    private interface Order {
-        void run();
-    }
-
-    private static void due(String what, Object want, Call call) {
-        Object got;
-        try {
-            got = call.run();
-        } catch (RuntimeException e) {
-            got = e.getClass().getSimpleName();
-        }
-        if (!want.equals(got)) {
-            wrong++;
-            System.out.println(what + " answered " + got + ", due is " + want);
-        }
-    }
-
-    private static void done(String what, Order order) {
-        due(what, "done", () -> {
-            order.run();
-            return "done";
-        });
-    }
-
-    private static void refused(String what, String exception, Order order) {
-        due(what, exception, () -> {
-            order.run();
-            return "done";
-        });
-    }
-
+public final class PromiseTest extends Checks {
     public static void main(String[] args) {
         face();
         newObject();
@@ -73,31 +29,7 @@ public final class PromiseTest {
         whatEndsASequence();
         whatLeavesASequence();
         largestSequences();
-        System.out.println(wrong == 0 ? "all answers are as due" : wrong + " answers are not as due");
-        if (wrong != 0) {
-            System.exit(1);
-        }
-    }
-
-    /** A tile of 4 x 4 points and one component whose one level has a precinct for each 2 x 2. */
-    private static PacketOrder four() {
-        PacketOrder x = new PacketOrder();
-        x.tile(0, 0, 4, 4);
-        x.component(1, 1, 0);
-        x.precincts(0, 0, 1, 1);
-        return x;
-    }
-
-    private static String lastPacket(PacketOrder x) {
-        return x.packet(0) + "" + x.packet(1) + x.packet(2) + x.packet(3);
-    }
-
-    private static String packets(PacketOrder x, int most) {
-        StringBuilder text = new StringBuilder();
-        for (int i = 0; i < most && x.next(); i++) {
-            text.append(i == 0 ? "" : " ").append(lastPacket(x));
-        }
-        return text.toString();
+        end();
     }
 
     private static void face() {
@@ -107,8 +39,8 @@ public final class PromiseTest {
                 names.add(method.getName() + method.getParameterCount());
             }
         }
-        due("the face", "[begin0, came3, change6, clear0, component3, layers2, next0, packet1, precincts4, skip1, tile4]",
-                names::toString);
+        due("the face", "[begin0, came3, change6, clear0, component3, layers2, next0, packet1, precincts4, skip1,"
+                + " tile4]", names::toString);
         due("public fields", 0, () -> PacketOrder.class.getFields().length);
         due("constructors", 1, () -> PacketOrder.class.getDeclaredConstructors().length);
         due("final", true, () -> Modifier.isFinal(PacketOrder.class.getModifiers()));
@@ -129,7 +61,7 @@ public final class PromiseTest {
         x.tile(0, 0, 8, 8);
         x.precincts(0, 1, 2, 2);
         due("1 begin with one layer", 7, x::begin);
-        due("1 order 0", "0000 0010 0100 0101 0102 0103 0110", () -> packets(x, 9));
+        due("1 order 0", "0.0.0.0 0.0.1.0 0.1.0.0 0.1.0.1 0.1.0.2 0.1.0.3 0.1.1.0", () -> packets(x, 9));
         due("1 change 0", 0, () -> x.packet(4));
         due("1 first change", 1, () -> x.change(0, 1, 0, 1, 1, 0));
     }
@@ -232,10 +164,10 @@ public final class PromiseTest {
         done("5 most", () -> x.layers(255, 4));
         due("5 packets", 4 * 255, x::begin);
         x.skip(255);
-        due("5 order 4", "254000", () -> lastPacket(x));
+        due("5 order 4", "254.0.0.0", () -> lastPacket(x));
         done("5 two", () -> x.layers(2, 0));
         due("5 fewer", 8, x::begin);
-        due("5 order 0", "0000 0001 0002 0003 1000 1001 1002 1003", () -> packets(x, 9));
+        due("5 order 0", "0.0.0.0 0.0.0.1 0.0.0.2 0.0.0.3 1.0.0.0 1.0.0.1 1.0.0.2 1.0.0.3", () -> packets(x, 9));
     }
 
     private static void change() {
@@ -251,22 +183,18 @@ public final class PromiseTest {
         refuseChanges(x, bad);
         for (int i = 1; i <= 32; i++) {
             int count = i;
-            due("6 how many", count, () -> tell(x, count == 32 ? good : new int[] {32, 33, 15, 16, 1, 0}));
+            due("6 how many", count, () -> tellChange(x, count == 32 ? good : new int[] {32, 33, 15, 16, 1, 0}));
         }
-        due("6 one too many", STATE, () -> tell(x, good));
+        due("6 one too many", STATE, () -> tellChange(x, good));
         refuseChanges(x, bad);
         due("6 all packets", 4, x::begin);
         due("6 those of the last one", 4, () -> x.skip(9));
         due("6 its number", 31, () -> x.packet(4));
     }
 
-    private static int tell(PacketOrder x, int[] a) {
-        return x.change(a[0], a[1], a[2], a[3], a[4], a[5]);
-    }
-
     private static void refuseChanges(PacketOrder x, int[][] bad) {
         for (int[] a : bad) {
-            due("6 change" + Arrays.toString(a), ARGUMENT, () -> tell(x, a));
+            due("6 change" + Arrays.toString(a), ARGUMENT, () -> tellChange(x, a));
         }
     }
 
@@ -279,7 +207,7 @@ public final class PromiseTest {
         due("7 before", 4, () -> x.skip(99));
         done("7 clear", x::clear);
         x.begin();
-        due("7 the own order", "0000 1000 0001 1001 0002 1002 0003 1003", () -> packets(x, 9));
+        due("7 the own order", "0.0.0.0 1.0.0.0 0.0.0.1 1.0.0.1 0.0.0.2 1.0.0.2 0.0.0.3 1.0.0.3", () -> packets(x, 9));
         due("7 from one again", 1, () -> x.change(0, 1, 0, 1, 1, 0));
     }
 
@@ -302,7 +230,7 @@ public final class PromiseTest {
         due("8 again", 12, z::begin);
         due("8 ahead of the first", ELEMENT, () -> z.packet(0));
         due("8 nothing came", 0, () -> z.came(0, 0, 0));
-        due("8 the first again", "0000", () -> packets(z, 1));
+        due("8 the first again", "0.0.0.0", () -> packets(z, 1));
     }
 
     private static void beginAtTheLimit() {
@@ -336,7 +264,7 @@ public final class PromiseTest {
         }
         due("9 no more", false, x::next);
         due("9 no more again", false, x::next);
-        due("9 the last one stays", "0003", () -> lastPacket(x));
+        due("9 the last one stays", "0.0.0.3", () -> lastPacket(x));
     }
 
     private static void skip() {
@@ -350,14 +278,14 @@ public final class PromiseTest {
         due("10 none", 0, () -> x.skip(0));
         due("10 none came", ELEMENT, () -> x.packet(0));
         due("10 one", 1, () -> x.skip(1));
-        due("10 the first", "0000", () -> lastPacket(x));
+        due("10 the first", "0.0.0.0", () -> lastPacket(x));
         due("10 six", 6, () -> x.skip(6));
-        due("10 the seventh", "1002", () -> lastPacket(x));
+        due("10 the seventh", "1.0.0.2", () -> lastPacket(x));
         due("10 none again", 0, () -> x.skip(0));
-        due("10 the seventh still", "1002", () -> lastPacket(x));
-        due("10 next", "1003 2000", () -> packets(x, 2));
+        due("10 the seventh still", "1.0.0.2", () -> lastPacket(x));
+        due("10 next", "1.0.0.3 2.0.0.0", () -> packets(x, 2));
         due("10 the rest", 3, () -> x.skip(MOST));
-        due("10 the last", "2003", () -> lastPacket(x));
+        due("10 the last", "2.0.0.3", () -> lastPacket(x));
         due("10 nothing left", 0, () -> x.skip(1));
         due("10 next of nothing", false, x::next);
     }
@@ -427,8 +355,9 @@ public final class PromiseTest {
         x.layers(1, 3);
         due("3 columns and rows", 9 + 9 + 4, x::begin);
         // Component 0 at 5, 8, 12 on both levels; component 1 has columns 1 and 2: at 6 and 12.
-        due("places by y and x", "0000 0100 0001 0101 0002 0102 0010 0011 0003 0103 0004 0104 0005 0105"
-                + " 0006 0106 0012 0007 0107 0008 0108 0013", () -> packets(x, 99));
+        due("places by y and x", "0.0.0.0 0.1.0.0 0.0.0.1 0.1.0.1 0.0.0.2 0.1.0.2 0.0.1.0 0.0.1.1"
+                + " 0.0.0.3 0.1.0.3 0.0.0.4 0.1.0.4 0.0.0.5 0.1.0.5"
+                + " 0.0.0.6 0.1.0.6 0.0.1.2 0.0.0.7 0.1.0.7 0.0.0.8 0.1.0.8 0.0.1.3", () -> packets(x, 99));
     }
 
     private static void emptyLevels() {
@@ -442,7 +371,7 @@ public final class PromiseTest {
         due("no precinct", ELEMENT, () -> x.came(0, 0, 0));
         x.component(1, 1, 3);
         due("levels 0 to 2 begin behind their end", 1, x::begin);
-        due("level 3", "0310", () -> packets(x, 9));
+        due("level 3", "0.3.1.0", () -> packets(x, 9));
         x.tile(0, 7, 8, 8);
         x.component(1, 8, 0);
         due("empty in y alone", 1 + 1, x::begin);
@@ -453,19 +382,15 @@ public final class PromiseTest {
 
     private static void orders() {
         String[] want = {
-            "0000 0010 0100 0101 0110 1000 1010 1100 1101 1110",
-            "0000 0010 1000 1010 0100 0101 0110 1100 1101 1110",
-            "0000 1000 0010 1010 0100 1100 0110 1110 0101 1101",
-            "0000 1000 0100 1100 0010 1010 0110 1110 0101 1101",
-            "0000 1000 0100 1100 0101 1101 0010 1010 0110 1110",
+            "0.0.0.0 0.0.1.0 0.1.0.0 0.1.0.1 0.1.1.0 1.0.0.0 1.0.1.0 1.1.0.0 1.1.0.1 1.1.1.0",
+            "0.0.0.0 0.0.1.0 1.0.0.0 1.0.1.0 0.1.0.0 0.1.0.1 0.1.1.0 1.1.0.0 1.1.0.1 1.1.1.0",
+            "0.0.0.0 1.0.0.0 0.0.1.0 1.0.1.0 0.1.0.0 1.1.0.0 0.1.1.0 1.1.1.0 0.1.0.1 1.1.0.1",
+            "0.0.0.0 1.0.0.0 0.1.0.0 1.1.0.0 0.0.1.0 1.0.1.0 0.1.1.0 1.1.1.0 0.1.0.1 1.1.0.1",
+            "0.0.0.0 1.0.0.0 0.1.0.0 1.1.0.0 0.1.0.1 1.1.0.1 0.0.1.0 1.0.1.0 0.1.1.0 1.1.1.0",
         };
-        PacketOrder x = new PacketOrder();
-        x.tile(0, 0, 8, 4);
-        x.component(1, 1, 1);
-        x.component(1, 1, 1);
-        x.precincts(0, 1, 2, 2);
         for (int order = 0; order < want.length; order++) {
             int number = order;
+            PacketOrder x = twoComponents();
             x.layers(2, order);
             due("packets", 10, x::begin);
             due("order " + order, want[number], () -> packets(x, 99));
@@ -473,54 +398,54 @@ public final class PromiseTest {
             x.change(0, 33, 0, 16, 255, order);
             x.begin();
             due("order " + order + " of a change", want[number], () -> packets(x, 99));
-            x.clear();
         }
     }
 
-    /** Sixteen components with all their levels at one place: only the order tells them apart. */
-    private static void ordersOfAllComponents() {
-        PacketOrder x = new PacketOrder();
-        x.tile(0, 0, 1, 1);
-        for (int c = 0; c < 16; c++) {
-            x.component(1, 1, 32);
-        }
-        for (int order = 0; order < 5; order++) {
-            boolean levelsFirst = order < 3;
-            x.layers(1, order);
-            due("a packet each", 16 * 33, x::begin);
-            for (int i = 0; i < 16 * 33; i += 5) {
-                int number = i;
-                x.begin();
-                x.skip(i + 1);
-                due("level " + i + " in order " + order, levelsFirst ? number / 16 : number % 33, () -> x.packet(1));
-                due("component " + i + " in order " + order, levelsFirst ? number % 16 : number / 33, () -> x.packet(2));
-            }
-        }
-    }
-
-    private static void changesInTurn() {
+    private static PacketOrder twoComponents() {
         PacketOrder x = new PacketOrder();
         x.tile(0, 0, 8, 4);
         x.component(1, 1, 1);
         x.component(1, 1, 1);
         x.precincts(0, 1, 2, 2);
+        return x;
+    }
+
+    /** Sixteen components with all their levels at one place: only the order tells them apart. */
+    private static void ordersOfAllComponents() {
+        for (int order = 0; order < 5; order++) {
+            boolean levelsFirst = order < 3;
+            PacketOrder x = new PacketOrder();
+            x.tile(0, 0, 1, 1);
+            for (int c = 0; c < 16; c++) {
+                x.component(1, 1, 32);
+            }
+            x.layers(1, order);
+            due("a packet each", 16 * 33, x::begin);
+            for (int i = 4; i < 16 * 33; i += 5) {
+                int number = i;
+                x.skip(5);
+                due("level " + i + " in order " + order, levelsFirst ? number / 16 : number % 33, () -> x.packet(1));
+                due("component " + i + " in order " + order, levelsFirst ? number % 16 : number / 33,
+                        () -> x.packet(2));
+            }
+        }
+    }
+
+    private static void changesInTurn() {
+        PacketOrder x = twoComponents();
         x.layers(3, 0);
         x.change(1, 2, 0, 1, 2, 2);
         x.change(0, 2, 0, 1, 1, 0);
         x.change(0, 33, 0, 16, 3, 0);
         due("all of them", 15, x::begin);
-        due("each once", "0100 1100 0101 1101 0000 0010 0110 1000 1010 1110 2000 2010 2100 2101 2110",
-                () -> packets(x, 99));
+        due("each once", "0.1.0.0 1.1.0.0 0.1.0.1 1.1.0.1 0.0.0.0 0.0.1.0 0.1.1.0 1.0.0.0 1.0.1.0 1.1.1.0"
+                + " 2.0.0.0 2.0.1.0 2.1.0.0 2.1.0.1 2.1.1.0", () -> packets(x, 99));
         x.begin();
-        StringBuilder numbers = new StringBuilder();
-        while (x.next()) {
-            numbers.append(x.packet(4));
-        }
-        due("by which change", "000012222222222", numbers::toString);
+        due("by which change", "0 0 0 0 1 2 2 2 2 2 2 2 2 2 2", () -> numbers(x, 4, 99));
     }
 
     private static void whatEndsASequence() {
-        Ending[] endings = {
+        Telling[] endings = {
             x -> x.tile(0, 0, 4, 4), x -> x.component(1, 1, 0), x -> x.precincts(0, 0, 1, 1), x -> x.layers(1, 0),
             x -> x.change(0, 1, 0, 1, 1, 0), x -> x.clear(),
         };
@@ -536,10 +461,6 @@ public final class PromiseTest {
         }
     }
 
-    private interface Ending {
-        void run(PacketOrder x);
-    }
-
     private static void whatLeavesASequence() {
         PacketOrder x = four();
         x.begin();
@@ -553,8 +474,8 @@ public final class PromiseTest {
         refused("wrong skip", ARGUMENT, () -> x.skip(-1));
         refused("wrong packet", ELEMENT, () -> x.packet(5));
         refused("wrong precinct", ELEMENT, () -> x.came(0, 0, 4));
-        due("the second still", "0001", () -> lastPacket(x));
-        due("and on", "0002 0003", () -> packets(x, 9));
+        due("the second still", "0.0.0.1", () -> lastPacket(x));
+        due("and on", "0.0.0.2 0.0.0.3", () -> packets(x, 9));
         PacketOrder full = four();
         for (int i = 0; i < 15; i++) {
             full.component(1, 1, 0);
@@ -578,13 +499,13 @@ public final class PromiseTest {
             x.layers(255, order);
             x.begin();
             due("ahead of the last", 4096 * 255 - 1, () -> x.skip(4096 * 255 - 1));
-            due("the last but one", byLayers ? "254004094" : "253004095", () -> lastPacket(x));
+            due("the last but one", byLayers ? "254.0.0.4094" : "253.0.0.4095", () -> lastPacket(x));
             due("the last one", true, x::next);
-            due("the last", "254004095", () -> lastPacket(x));
+            due("the last", "254.0.0.4095", () -> lastPacket(x));
             due("the end", false, x::next);
             x.begin();
             x.skip(4096 * 100 + 300);
-            due("midway", byLayers ? "10000299" : "114001607", () -> lastPacket(x));
+            due("midway", byLayers ? "100.0.0.299" : "114.0.0.1607", () -> lastPacket(x));
             due("all the rest", 4096 * 155 - 300, () -> x.skip(MOST));
         }
     }
