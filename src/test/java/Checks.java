@@ -7,9 +7,28 @@ abstract class Checks {
     static final int LEAST = Integer.MIN_VALUE;
     static final int MOST = Integer.MAX_VALUE;
 
+    // A test takes some seconds: this is reached only if a call does not end.
+    private static final int MOST_SECONDS = 300;
+
     private static int wrong = 0;
     private static int asked = 0;
-    private static String topic = "";
+    private static volatile String topic = "";
+
+    static {
+        Thread guard = new Thread(Checks::failWhenTooLong);
+        guard.setDaemon(true);
+        guard.start();
+    }
+
+    private static void failWhenTooLong() {
+        try {
+            Thread.sleep(MOST_SECONDS * 1000L);
+        } catch (InterruptedException e) {
+            return;
+        }
+        System.out.println(topic + "a call does not end");
+        Runtime.getRuntime().halt(1);
+    }
 
     interface Call {
         Object run();

@@ -958,7 +958,7 @@ public final class EdgeTest extends Checks {
 
     /** Of each precinct as many as were seen to come, with several precincts on each level of each component. */
     private static void cameOfEach() {
-        int[][] counts = {{2, 4, 4}, {1, 3}, {2, 1, 2}, {4}};
+        int[][] counts = {{2, 4, 4}, {4}, {1, 3}, {2, 1, 2}};
         for (int order = 0; order < 5; order++) {
             PacketOrder x = severalLevels();
             x.layers(2, order);
@@ -977,17 +977,16 @@ public final class EdgeTest extends Checks {
     private static PacketOrder severalLevels() {
         PacketOrder x = new PacketOrder();
         x.tile(0, 0, 8, 6);
-        x.component(1, 1, 2);
-        x.component(1, 1, 1);
-        x.component(1, 1, 2);
-        x.component(1, 1, 0);
+        for (int n : new int[] {2, 0, 1, 2}) {
+            x.component(1, 1, n);
+        }
         x.precincts(0, 0, 0, 1);
         x.precincts(0, 1, 1, 1);
         x.precincts(0, 2, 2, 2);
-        x.precincts(1, 1, 15, 1);
-        x.precincts(2, 0, 0, 15);
-        x.precincts(2, 2, 2, 15);
-        x.precincts(3, 0, 1, 15);
+        x.precincts(1, 0, 1, 15);
+        x.precincts(2, 1, 15, 1);
+        x.precincts(3, 0, 0, 15);
+        x.precincts(3, 2, 2, 15);
         return x;
     }
 

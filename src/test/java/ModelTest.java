@@ -8,7 +8,7 @@ import java.util.NoSuchElementException;
  * Long runs of calls, always the same ones, answered by the class and by a plain model that writes
  * out all packets and sorts them as the document says.
  */
-public final class ModelTest {
+public final class ModelTest extends Checks {
     private static final int RUNS = 3000;
     private static final int CALLS = 200;
     private static final int TELLING = 16;
