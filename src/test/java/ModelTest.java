@@ -10,8 +10,10 @@ import java.util.NoSuchElementException;
  */
 public final class ModelTest extends Checks {
     private static final int RUNS = 3000;
+    private static final int FAR_RUNS = 400;
     private static final int CALLS = 200;
     private static final int TELLING = 16;
+    private static final int FAR_TELLING = 60;
     private static final int BEGIN = 6;
     private static final int[] ODD = {-1, 0, 1, 15, 16, 17, 32, 33, 34, 255, 256, 32767, 32768,
         Integer.MIN_VALUE, Integer.MAX_VALUE};
@@ -19,9 +21,10 @@ public final class ModelTest extends Checks {
     private static final int[] SKIPS = {3, 10, 10, 40, 100, 2000};
 
     private static long seed = 1;
-    // Of which kind the run is: large tiles and steps, or many components.
+    // Of which kind the run is: large tiles and steps, many components, or all that the document allows.
     private static boolean wide = false;
     private static boolean many = false;
+    private static boolean far = false;
 
     /** A fixed row of numbers, so that a failure comes again. */
     private static int below(int bound) {
@@ -37,14 +40,16 @@ public final class ModelTest extends Checks {
     public static void main(String[] args) {
         int wrong = 0;
         long packets = 0;
-        for (int run = 1; run <= RUNS && wrong == 0; run++) {
+        for (int run = 1; run <= RUNS + FAR_RUNS && wrong == 0; run++) {
             wide = run % 3 == 0;
             many = run % 5 == 0;
+            far = run > RUNS;
             PacketOrder real = new PacketOrder();
             Model model = new Model();
             StringBuilder told = new StringBuilder();
             for (int call = 0; call < CALLS && wrong == 0; call++) {
-                int[] a = chooseCall(call);
+                int kind = far ? chooseFarKind(call) : chooseKind(call);
+                int[] a = far ? chooseFarCall(kind) : chooseCall(kind);
                 String want = model.answer(a);
                 String got = answer(real, a);
                 packets += a[0] == 9 && !want.equals("NoSuchElementException") ? 1 : 0;
@@ -70,15 +75,26 @@ public final class ModelTest extends Checks {
         if (call < TELLING) {
             return many && call > 4 ? 1 : below(5);
         }
+        return call == TELLING ? BEGIN : chooseLaterKind();
+    }
+
+    /** Mostly components and their precincts, and a tile at the end, that may be small enough for them all. */
+    private static int chooseFarKind(int call) {
+        if (call < FAR_TELLING) {
+            return call == FAR_TELLING - 1 ? 0 : oneOf(0, 1, 1, 2, 2, 2, 2, 2, 3, 4, 4, 4);
+        }
+        return call == FAR_TELLING ? BEGIN : chooseLaterKind();
+    }
+
+    private static int chooseLaterKind() {
         int chance = below(100);
-        if (call == TELLING || chance < 3) {
+        if (chance < 3) {
             return BEGIN;
         }
         return chance < 6 ? below(BEGIN) : BEGIN + 1 + below(4);
     }
 
-    private static int[] chooseCall(int call) {
-        int kind = chooseKind(call);
+    private static int[] chooseCall(int kind) {
         switch (kind) {
             case 0:
                 int x = below(wide ? 20000 : 40);
@@ -106,6 +122,56 @@ public final class ModelTest extends Checks {
                 return new int[] {10, from(0, many ? 12 : 3), from(0, 4), from(0, 8)};
             default:
                 return new int[] {kind};
+        }
+    }
+
+    private static int oneOf(int... numbers) {
+        return numbers[below(numbers.length)];
+    }
+
+    private static int[] chooseFarTile() {
+        int most = oneOf(40, 40, 600, 32767);
+        int width = 1 + below(most);
+        int height = 1 + below(most);
+        int x = oneOf(0, 32767 - width, below(32768 - width));
+        int y = oneOf(0, 32767 - height, below(32768 - height));
+        return new int[] {0, from(x, x), from(y, y), from(x + width, x + width), from(y + height, y + height)};
+    }
+
+    private static int[] chooseFarChange() {
+        if (below(3) == 0) {
+            return new int[] {4, 0, 33, 0, 16, oneOf(1, 2, 254, 255, from(1, 255)), from(0, 4)};
+        }
+        int level = below(33);
+        int component = below(16);
+        return new int[] {4, from(level, level), from(level + 1, 33), from(component, component),
+            from(component + 1, 16), oneOf(1, 2, 254, 255, from(1, 255)), from(0, 4)};
+    }
+
+    private static int chooseFarExponent() {
+        return oneOf(from(0, 15), from(1, 5), from(8, 15));
+    }
+
+    private static int[] chooseFarCall(int kind) {
+        switch (kind) {
+            case 0:
+                return chooseFarTile();
+            case 1:
+                return new int[] {1, oneOf(1, 1, 2, 3, 8, 254, 255, from(1, 255)),
+                    oneOf(1, 1, 2, 5, 16, 254, 255, from(1, 255)), oneOf(0, 1, 2, 5, 14, 15, 16, 31, 32, from(0, 32))};
+            case 2:
+                return new int[] {2, from(0, 15), oneOf(from(0, 4), from(0, 32)), chooseFarExponent(),
+                    chooseFarExponent()};
+            case 3:
+                return new int[] {3, oneOf(1, 2, 254, 255, from(1, 255)), from(0, 4)};
+            case 4:
+                return chooseFarChange();
+            case 8:
+                return new int[] {8, oneOf(0, 1, below(100), below(1000), below(20000), below(500000), from(0, 50))};
+            case 10:
+                return new int[] {10, from(0, 15), oneOf(from(0, 4), from(0, 32)), oneOf(0, from(0, 8), from(0, 300))};
+            default:
+                return chooseCall(kind);
         }
     }
 

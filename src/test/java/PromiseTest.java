@@ -1,3 +1,4 @@
+import java.lang.reflect.Field;
 import java.lang.reflect.Method;
 import java.lang.reflect.Modifier;
 import java.util.Arrays;
@@ -32,18 +33,40 @@ public final class PromiseTest extends Checks {
         end();
     }
 
+    private static final String[] FACE = {
+        "public void PacketOrder.tile(int,int,int,int) throws IllegalArgumentException",
+        "public int PacketOrder.component(int,int,int) throws IllegalArgumentException,IllegalStateException",
+        "public void PacketOrder.precincts(int,int,int,int) throws NoSuchElementException,IllegalArgumentException",
+        "public void PacketOrder.layers(int,int) throws IllegalArgumentException",
+        "public int PacketOrder.change(int,int,int,int,int,int) throws IllegalArgumentException,IllegalStateException",
+        "public void PacketOrder.clear()",
+        "public int PacketOrder.begin() throws IllegalStateException,UnsupportedOperationException",
+        "public boolean PacketOrder.next() throws IllegalStateException",
+        "public int PacketOrder.skip(int) throws IllegalArgumentException,IllegalStateException",
+        "public int PacketOrder.packet(int) throws NoSuchElementException",
+        "public int PacketOrder.came(int,int,int) throws NoSuchElementException",
+    };
+
     private static void face() {
-        Set<String> names = new TreeSet<>();
+        Set<String> methods = new TreeSet<>();
         for (Method method : PacketOrder.class.getDeclaredMethods()) {
             if (!Modifier.isPrivate(method.getModifiers())) {
-                names.add(method.getName() + method.getParameterCount());
+                methods.add(method.toString().replace("java.lang.", "").replace("java.util.", ""));
             }
         }
-        due("the face", "[begin0, came3, change6, clear0, component3, layers2, next0, packet1, precincts4, skip1,"
-                + " tile4]", names::toString);
-        due("public fields", 0, () -> PacketOrder.class.getFields().length);
-        due("constructors", 1, () -> PacketOrder.class.getDeclaredConstructors().length);
-        due("final", true, () -> Modifier.isFinal(PacketOrder.class.getModifiers()));
+        due("the face", new TreeSet<>(Arrays.asList(FACE)), () -> methods);
+        due("the constructor", "[public PacketOrder()]",
+                () -> Arrays.toString(PacketOrder.class.getDeclaredConstructors()));
+        due("the class", "public final", () -> Modifier.toString(PacketOrder.class.getModifiers()));
+        for (Field field : PacketOrder.class.getDeclaredFields()) {
+            due("private: " + field.getName(), true, () -> Modifier.isPrivate(field.getModifiers()));
+        }
+        for (Class<?> inside : PacketOrder.class.getDeclaredClasses()) {
+            int modifiers = inside.getModifiers();
+            due("static: " + inside.getName(), true, () -> Modifier.isStatic(modifiers));
+            due("hidden: " + inside.getName(), false,
+                    () -> Modifier.isPublic(modifiers) || Modifier.isProtected(modifiers));
+        }
     }
 
     private static void newObject() {
