@@ -437,13 +437,11 @@ public final class PacketOrder {
         }
 
         int take(int n) {
-            int left = n;
-            // It ends, because no group is empty: each turn goes on to a later group, or is the last one.
-            while (left > 0 && groupStart < size) {
+            int left = n - takeOfGroup(n);
+            // No group is empty, so there are no more of them than precincts.
+            for (int group = 1; group < size && left > 0 && groupEnd < size; group++) {
+                openGroup(groupEnd);
                 left -= takeOfGroup(left);
-                if (left > 0) {
-                    openGroup(groupEnd);
-                }
             }
             return n - left;
         }
@@ -466,15 +464,16 @@ public final class PacketOrder {
         /** Fewer than n only if the group has no more. */
         private int takeOfGroup(int n) {
             int left = n;
-            while (left > 0 && layer < layerEnd) {
+            for (; left > 0 && layer < layerEnd; layer++) {
                 if (at == groupStart && left > groupEnd - groupStart) {
                     left -= takeWholeLayers(left);
                 }
                 left -= takeOfLayer(left);
-                if (at >= groupEnd) {
-                    at = groupStart;
-                    layer++;
+                if (at < groupEnd) {
+                    // Enough within this layer: the next call goes on from here.
+                    break;
                 }
+                at = groupStart;
             }
             return n - left;
         }
